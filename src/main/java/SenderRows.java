@@ -152,23 +152,20 @@ public final class SenderRows {
     }
 
     public int slant(int s, int n, int i) {
-        int refusal = findOneLaw(s, n);
+        int refusal = findSlants(s, n);
         if (refusal != 0) {
             return refusal;
         }
-        return i == NONE ? found.slantsInAll() : found.slantAt(i);
+        return i == NONE ? found.slantsInAll : found.slantAt(i);
     }
 
     public int strength(int s, int n, int i) {
-        int refusal = findOneLaw(s, n);
+        int refusal = findSlants(s, n);
         if (refusal != 0) {
             return refusal;
         }
         int z = found.slantAt(i);
-        if (z == NONE || found.slantsInAll() != found.length) {
-            return NONE;
-        }
-        return found.strengthOf(z, s);
+        return z != NONE && found.isFull() ? found.strengthOf(z, s) : NONE;
     }
 
     public int mended(int s, int n, int k, int what) {
@@ -291,14 +288,18 @@ public final class SenderRows {
         found.find(n);
     }
 
-    /** Finds THE LAW of a SPAN: 0 if it is ONE, else the refusal. */
-    private int findOneLaw(int s, int n) {
+    /** Finds THE LAW of a SPAN and its SLANTS: 0 if it is ONE, else the refusal. */
+    private int findSlants(int s, int n) {
         int refusal = spanRefusal(s, n);
         if (refusal != 0) {
             return refusal;
         }
         findLaw(s, n);
-        return found.isOne() ? 0 : NOT;
+        if (!found.isOne()) {
+            return NOT;
+        }
+        found.findSlants();
+        return 0;
     }
 
     /** The greatest common divisor of two numbers not below 0; 0 if both are 0. */
@@ -542,6 +543,8 @@ public final class SenderRows {
         /** The terms as they were ahead of the last growth. */
         private int[] older = new int[PLACES + 1];
         private int[] spare = new int[PLACES + 1];
+        int slantsInAll;
+        private final int[] slants = new int[PLACES];
 
         Law(Rests rests) {
             this.rests = rests;
@@ -628,27 +631,23 @@ public final class SenderRows {
             return value == 0;
         }
 
-        int slantsInAll() {
-            int slants = 0;
-            for (int z = 1; z < rests.modulus; z++) {
+        /** To be called for a LAW that is found; those after it ask what this one finds. */
+        void findSlants() {
+            slantsInAll = 0;
+            for (int z = 1; z < rests.modulus && slantsInAll < PLACES; z++) {
                 if (hasRoot(z)) {
-                    slants++;
+                    slants[slantsInAll] = z;
+                    slantsInAll++;
                 }
             }
-            return slants;
+        }
+
+        boolean isFull() {
+            return slantsInAll == length;
         }
 
         int slantAt(int i) {
-            int lesser = 0;
-            for (int z = 1; z < rests.modulus; z++) {
-                if (hasRoot(z)) {
-                    if (lesser == i) {
-                        return z;
-                    }
-                    lesser++;
-                }
-            }
-            return NONE;
+            return i >= 0 && i < slantsInAll ? slants[i] : NONE;
         }
 
         /**

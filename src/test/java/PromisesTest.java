@@ -406,6 +406,12 @@ public final class PromisesTest {
         due.is("15 no hearers", x.tune(0), 0);
         SenderRows y = new SenderRows();
         y.sender(1, 1);
+        y.hearers(16777215);
+        for (int k = 0; k < 24; k++) {
+            y.read(k, 0);
+            due.is("15 a read of 0 at " + k, y.tune(0), NOT);
+            y.read(k, NONE);
+        }
         y.drop();
         due.is("15 dropped", y.tune(0), UNKNOWN);
     }
