@@ -3,7 +3,7 @@ import java.util.List;
 
 /**
  * All that can be seen of an object from outside, each answer with its call. Taking it uses the
- * object up: some 400 calls, and little of its state is left.
+ * object up: some 430 calls, and little of its state is left.
  */
 final class Portrait {
     private static final int PLACES = 24;
@@ -44,9 +44,14 @@ final class Portrait {
         for (int what = 0; what < 10; what++) see("count " + what, x.count(what));
     }
 
-    /** The count after each READ that is taken back tells whether it was by hand. */
+    /**
+     * With HEARERS at all PLACES each READ shows, and the count after it is taken back tells
+     * whether it was by hand.
+     */
     private void places() {
         for (int k = 0; k < PLACES; k++) see("heard " + k, x.heard(k));
+        x.hearers(ALL);
+        for (int k = 0; k < PLACES; k++) see("read " + k, x.heard(k));
         for (int k = 0; k < PLACES; k++) {
             see("taken back " + k, x.read(k, NONE));
             see("by hand after " + k, x.count(3));
@@ -56,7 +61,6 @@ final class Portrait {
 
     /** What comes at 0 and 1, with one SENDER less each time, tells STRENGTH and SLANT of each. */
     private void senders() {
-        x.hearers(ALL);
         int left = x.count(2);
         for (int step = 0; step < 8 && left > 0; step++) {
             see("heard at 0 of " + left, x.heard(0));
