@@ -233,6 +233,7 @@ public final class SpanBoundsTest {
         bounds.asked("i 3", Bounds::busy, 37 - 30, x -> x.law(4, 6, 3));
         bounds.refused("i 4", Bounds::busy, OUTSIDE, x -> x.law(4, 6, 4));
         bounds.refused("i far above", Bounds::busy, OUTSIDE, x -> x.law(4, 6, MAX));
+        bounds.refused("no span, so no L", Bounds::busy, NOT, x -> x.law(4, 8, 4));
     }
 
     static void promise11_law_everyOrderToItsEnd() {

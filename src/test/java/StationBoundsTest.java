@@ -367,6 +367,18 @@ public final class StationBoundsTest {
         due.is("201 aside, by 200", beyond.borne(0, 1, 200), 0);
     }
 
+    static void promise22_borne_everyWidth() {
+        // ways of the greatest turn, 20000: the crossing is at (0, 0)
+        SenderRows x = with(at(-100, -100, 100, 100), at(100, -100, -100, 100), at(-50, 99, 100, 0));
+        for (int width = 0; width <= 200; width++) {
+            due.is("99 aside, by " + width, x.borne(0, 1, width), width >= 99 ? 1 : 0);
+        }
+        x.look(2, 0, -100);
+        for (int width = 0; width <= 200; width++) {
+            due.is("50 aside, by " + width, x.borne(0, 1, width), width >= 50 ? 1 : 0);
+        }
+    }
+
     static void promise22_borne_notBehind() {
         borneFrom("it stands there", crossAnd(0, 0, -1, -1), 0);
         borneFrom("abeam", crossAnd(0, 7, 1, 0), 7);
@@ -386,6 +398,11 @@ public final class StationBoundsTest {
         due.is("abeam", ahead.borne(0, 1, 1), 1);
         ahead.look(2, -1, 100);
         due.is("behind", ahead.borne(0, 1, 1), 0);
+        // at (1 / 100, 0)
+        SenderRows least = with(at(-3, 0, 1, 0), at(0, 1, 1, -100), at(0, 0, 1, 100));
+        due.is("the least ahead", least.borne(0, 1, 1), 1);
+        least.look(2, -1, 100);
+        due.is("the least behind", least.borne(0, 1, 1), 0);
     }
 
     static void promise22_borne_farthest() {

@@ -89,6 +89,23 @@ public final class ThinRowBoundsTest {
         }
     }
 
+    static void promise16_twin_afterAGreaterPrime() {
+        for (int set : new int[] {0, 1 | 1 << 12}) {
+            SenderRows x = row(97, set);
+            due.is("of 97", x.twin(0, 0), 1);
+            int before = 97;
+            // 4, 6 and 12 divide 12: all slants are alike
+            for (int p : new int[] {13, 7, 5}) {
+                int all = (p - 1) * (p - 2) / 2;
+                due.is("prime", x.prime(p), before);
+                due.is("how many of " + p, x.count(7), all);
+                due.is("the last of " + p, x.twin(all - 1, 1), p - 1);
+                due.is("no more of " + p, x.twin(all, 0), NONE);
+                before = p;
+            }
+        }
+    }
+
     static void promise16_twin_twoHearers() {
         for (int p : PRIMES) {
             for (int d = 1; d < 24; d++) {
