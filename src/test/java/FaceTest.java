@@ -28,6 +28,12 @@ public final class FaceTest {
         "throw", "throws", "try", "catch", "synchronized", "assert", "import", "package", "native", "volatile",
         "transient", "Object", "double", "float", "\\w+Exact", "->", "::", "\\.equals", "hashCode", "toString"};
 
+    /** Of the library of rule 4, what the class has need of. */
+    private static final String[] LIBRARY = {"Math.max", "Math.abs", "Integer.bitCount", "System.arraycopy"};
+
+    private static final Pattern METHOD = Pattern.compile("( *)[\\w\\[\\]. ]*\\b(\\w+)\\(([\\w\\[\\], ]*)\\) \\{");
+    private static final Pattern ROW_OF_AN_OBJECT = Pattern.compile(" *(private )?(final )?int\\[\\] \\w+ = new int\\[[A-Z_ +1]+\\];");
+
     public static void main(String[] args) throws IOException {
         Due due = new Due();
         theClass(due);
@@ -35,6 +41,10 @@ public final class FaceTest {
         constants(due);
         classesInside(due);
         words(due);
+        library(due);
+        methodsAreShort(due);
+        objectsAreMadeAtFirst(due);
+        loopsHaveAnEnd(due);
         due.end();
     }
 
@@ -93,15 +103,72 @@ public final class FaceTest {
         }
     }
 
-    /** The words of the code, comments left out. */
+    /** The class without its comments, each line where it was. */
+    private static String code() throws IOException {
+        StringBuilder code = new StringBuilder();
+        for (String line : Files.readString(Path.of(SOURCE)).split("\n")) {
+            String bare = line.replaceAll("//.*", "").replaceAll("/\\*.*?\\*/", "");
+            code.append(bare.matches("\\s*/?\\*.*") ? "" : bare).append('\n');
+        }
+        return code.toString();
+    }
+
     private static void words(Due due) throws IOException {
         String source = Files.readString(Path.of(SOURCE));
         due.holds("plain signs alone", source.chars().allMatch(sign -> sign < 128));
-        String code = source.replaceAll("(?s)/\\*.*?\\*/", "").replaceAll("//[^\\n]*", "");
+        String code = code();
         for (String word : FORBIDDEN) {
             String edge = Character.isLetter(word.charAt(0)) ? "\\b" : "";
             Matcher m = Pattern.compile(edge + word + edge).matcher(code);
             due.holds("not in the language: " + word, !m.find());
+        }
+    }
+
+    /** Rule 4. */
+    private static void library(Due due) throws IOException {
+        Matcher m = Pattern.compile("\\b[A-Z]\\w*[a-z]\\w*\\.\\w+(?=\\()").matcher(code());
+        List<String> own = new ArrayList<>();
+        for (Class<?> c : SenderRows.class.getDeclaredClasses()) own.add(c.getSimpleName());
+        while (m.find()) {
+            String of = m.group().substring(0, m.group().indexOf('.'));
+            due.holds("of the library: " + m.group(), own.contains(of) || Arrays.asList(LIBRARY).contains(m.group()));
+        }
+    }
+
+    /** Rule 11: a method ends with the brace that stands where it begins. */
+    private static void methodsAreShort(Due due) throws IOException {
+        String[] lines = code().split("\n");
+        int seen = 0;
+        for (int at = 0; at < lines.length; at++) {
+            Matcher m = METHOD.matcher(lines[at]);
+            if (!m.matches() || lines[at].matches(" *(if|for|while|switch) .*")) continue;
+            int end = at;
+            while (end < lines.length && !lines[end].equals(m.group(1) + "}")) end++;
+            due.holds("some sixty lines: " + m.group(2), end - at < 60);
+            due.holds("seven parameters: " + m.group(2), m.group(3).split(",").length <= 7);
+            seen++;
+        }
+        due.holds("methods were seen: " + seen, seen > FACE.length);
+    }
+
+    /** Rule 12: all that an object has need of is made with it, and none by a call. */
+    private static void objectsAreMadeAtFirst(Due due) throws IOException {
+        String[] lines = code().split("\n");
+        boolean constructor = false;
+        for (String line : lines) {
+            if (METHOD.matcher(line).matches()) constructor = line.matches(" *(public )?[A-Z]\\w*\\(.*");
+            if (!line.matches(".*\\bnew\\b.*")) continue;
+            due.holds("made with the object: " + line.trim(), constructor || ROW_OF_AN_OBJECT.matcher(line).matches());
+        }
+    }
+
+    /** Rule 9, as far as it is seen from a line: a counter against a bound, and no other loops. */
+    private static void loopsHaveAnEnd(Due due) throws IOException {
+        for (String line : code().split("\n")) {
+            due.holds("a loop with a counter: " + line.trim(), !line.matches(".*\\b(while|do)\\b.*"));
+            if (!line.matches(" *for .*")) continue;
+            due.holds("a counter against a bound: " + line.trim(),
+                line.matches(" *for \\(int (\\w+) = [^;]+; [^;]*\\b\\1( \\* \\1)? (<|<=|>=) [^;]+; \\1(\\+\\+|--)\\) \\{"));
         }
     }
 }
